@@ -332,10 +332,8 @@ public final class FieldRelay {
                 case 1: return session;
                 case 2: return number;
                 case 3: return goal;
-                default: break;
+                default: return within(what, FIRST_OF_ROW, FIRST_OF_ROW + ROW - 1) ? row[what - FIRST_OF_ROW] : REFUSED;
             }
-            int i = what - FIRST_OF_ROW;
-            return what >= FIRST_OF_ROW && i < ROW ? row[i] : REFUSED;
         }
     }
 
@@ -462,7 +460,6 @@ public final class FieldRelay {
             size = 0;
             onItsWay = 0;
             latestNumber = 0;
-            sinceSent = 0;
         }
 
         void add(int slot, int kindPlusOne) {
@@ -816,7 +813,7 @@ public final class FieldRelay {
 
         void setFallback(int what, int octet) {
             fallback = what;
-            fallbackOctet = what == AN_OCTET ? octet : 0;
+            fallbackOctet = octet;
         }
 
         void changeModule(int slot, int k) {
@@ -904,7 +901,6 @@ public final class FieldRelay {
             state = CONNECTED;
             session = f.session;
             ticks = 0;
-            differing = 0;
             Arrays.fill(written, NOT_WRITTEN);
             for (int slot = 0; slot < SLOTS; slot++) {
                 expected[slot] = f.row[slot] - 1;
@@ -987,7 +983,7 @@ public final class FieldRelay {
                 int p = place(slot, i);
                 if (i >= outs || fallback == ZEROS) {
                     shown[p] = 0;
-                } else if (fallback == AN_OCTET) {
+                } else if (fallback != AS_THEY_WERE) {
                     shown[p] = fallbackOctet;
                 }
             }
