@@ -2,122 +2,63 @@
 public final class RandomRunsTest {
     private static final int RUNS = 1500;
     private static final int CALLS = 512;
-    private static final int[] ODD = {Integer.MIN_VALUE, -3, -2, 9, 16, 17, 256, 65536, Integer.MAX_VALUE};
 
-    private long seed;
-    private final FieldRelay x = new FieldRelay();
-    private final int[] reached = new int[2];
-
-    private RandomRunsTest(long seed) {
-        this.seed = seed;
-    }
+    private int relationStates;
+    private int deviceStates;
 
     public static void main(String[] args) {
         Bench b = new Bench("random runs");
-        int relationStates = 0;
-        int deviceStates = 0;
+        RandomRunsTest seen = new RandomRunsTest();
         for (int run = 0; run < RUNS; run++) {
-            RandomRunsTest one = new RandomRunsTest(run);
-            RandomRunsTest same = new RandomRunsTest(run);
+            AnyCalls one = new AnyCalls(run);
+            AnyCalls same = new AnyCalls(run);
             boolean held = true;
             boolean alike = true;
             for (int call = 0; call < CALLS; call++) {
-                alike &= one.anyCall(run % 3) == same.anyCall(run % 3);
-                held &= one.holds();
+                alike &= one.next(run % 3) == same.next(run % 3);
+                held &= seen.holds(one.x);
             }
             b.yes("what always holds, run " + run, held);
             b.yes("the same calls, the same answers, run " + run, alike);
-            relationStates |= one.reached[0];
-            deviceStates |= one.reached[1];
         }
-        b.is("states that relations reached", relationStates, 127);
-        b.is("states that devices reached", deviceStates, 15);
+        b.is("states that relations reached", seen.relationStates, 127);
+        b.is("states that devices reached", seen.deviceStates, 15);
         b.finish();
     }
 
-    private int below(int n) {
-        seed = seed * 6364136223846793005L + 1442695040888963407L;
-        return (int) ((seed >>> 33) % n);
-    }
-
-    private int number(int low, int high) {
-        return below(60) == 0 ? ODD[below(ODD.length)] : low + below(high - low + 1);
-    }
-
-    /** Calls that bring frames on their way come more often, so that DATA is reached. */
-    private long anyCall(int manner) {
-        int pick = below(100);
-        if (pick < 55) {
-            return wireCall(pick, manner);
-        }
-        if (pick < 80) {
-            return question(pick);
-        }
-        return change(pick);
-    }
-
-    private long wireCall(int pick, int manner) {
-        if (pick < 38) {
-            return x.deliver(below(manner + 1) < 2 ? 0 : number(0, 15));
-        }
-        if (pick < 41) {
-            return x.lose(number(0, 15));
-        }
-        if (pick < 44) {
-            return x.repeat(number(0, 15));
-        }
-        return pick < 52 ? x.tick(number(1, 1 + manner)) : x.tick(number(0, 9));
-    }
-
-    private long question(int pick) {
-        switch (pick % 6) {
-            case 0: return x.frame(number(-1, 16), number(-1, 11));
-            case 1: return x.relation(number(-1, 2), number(-1, 7));
-            case 2: return x.device(number(-1, 2), number(-1, 9));
-            case 3: return x.data(number(-1, 2), number(-1, 2), number(-1, 3), number(-1, 2));
-            case 4: return x.alarms(number(-1, 8));
-            default: return x.count(number(-1, 8));
-        }
-    }
-
-    private long change(int pick) {
-        switch (pick) {
-            case 80: return flag(x.kind(number(0, 7), number(0, 2), number(0, 2), below(2) == 0));
-            case 81: return flag(x.name(number(0, 1), number(1, 2)));
-            case 82: return flag(x.substitute(number(0, 1), number(0, 2), number(0, 255)));
-            case 83: case 84: return flag(x.sense(number(0, 1), number(0, 2), number(0, 1), number(0, 255)));
-            case 85: case 86: return flag(x.target(number(0, 1), number(1, 2)));
-            case 87: case 88: return flag(x.expect(number(0, 1), number(0, 2), number(-1, 2), number(0, 255)));
-            case 89: case 90: return flag(x.give(number(0, 1), number(0, 2), number(0, 1), number(0, 255)));
-            case 91: return below(4) == 0 ? x.close(number(0, 1)) : 0;
-            case 92: case 93: case 94: return flag(x.plug(number(0, 1), number(0, 2), number(-1, 2)));
-            default: return x.open(number(0, 1));
-        }
-    }
-
-    private static long flag(boolean b) {
-        return b ? 1 : 0;
-    }
-
-    private boolean holds() {
+    private boolean holds(FieldRelay x) {
         boolean ok = x.count(3) >= 0 && x.count(3) <= 16 && x.frame(x.count(3), 0) == -2;
         for (int n = 0; n < 2; n++) {
-            int state = x.relation(n, 0);
-            reached[0] |= 1 << state;
-            ok &= (state == 0) == (x.relation(n, 1) == 0);
-            ok &= (state <= 1) == (x.relation(n, 2) == -1);
-            ok &= x.relation(n, 4) == 0 || state == 6;
-            ok &= x.relation(n, 5) <= (state == 5 ? 11 : 3) && x.relation(n, 6) <= 2;
-            int device = x.device(n, 0);
-            reached[1] |= 1 << device;
-            ok &= (device == 0) == (x.device(n, 1) == 0);
-            ok &= device == 3 || x.device(n, 3) == 0 && x.device(n, 4) == 0;
-            ok &= x.device(n, 3) <= 4 && (x.device(n, 4) == 0 || x.device(n, 3) > 0);
-            for (int p = 0; p < 6; p++) {
-                ok &= x.data(0, n, p / 2, p % 2) >= 0 && x.data(1, n, p / 2, p % 2) >= 0;
-                ok &= state == 6 || x.data(1, n, p / 2, p % 2) == 0;
-            }
+            ok &= relationHolds(x, n) && deviceHolds(x, n);
         }
         return ok && (x.relation(0, 1) == 0 || x.relation(0, 1) != x.relation(1, 1));
+    }
+
+    private boolean relationHolds(FieldRelay x, int r) {
+        int state = x.relation(r, 0);
+        relationStates |= 1 << state;
+        boolean ok = (state == Rig.CLOSED) == (x.relation(r, 1) == 0);
+        ok &= (state <= Rig.SEEKING) == (x.relation(r, 2) == -1);
+        ok &= x.relation(r, 4) == 0 || state == Rig.R_DATA;
+        ok &= x.relation(r, 5) <= (state == Rig.WAITING ? 11 : 3) && x.relation(r, 6) <= 2;
+        for (int p = 0; p < 6; p++) {
+            int got = x.data(1, r, p / 2, p % 2);
+            ok &= got >= 0 && got <= 255 && (got == 0 || state == Rig.R_DATA);
+        }
+        return ok;
+    }
+
+    private boolean deviceHolds(FieldRelay x, int d) {
+        int state = x.device(d, 0);
+        deviceStates |= 1 << state;
+        boolean ok = (state == Rig.IDLE) == (x.device(d, 1) == 0);
+        ok &= state == Rig.D_DATA || x.device(d, 3) == 0 && x.device(d, 4) == 0;
+        ok &= x.device(d, 3) <= 4 && (x.device(d, 4) == 0 || x.device(d, 3) > 0);
+        ok &= x.device(d, 8) <= new int[] {0, 15, 2, 3}[state];
+        for (int p = 0; p < 6; p++) {
+            int shown = x.data(0, d, p / 2, p % 2);
+            ok &= shown >= 0 && shown <= 255;
+        }
+        return ok;
     }
 }

@@ -40,6 +40,24 @@ final class Rig {
         return x;
     }
 
+    /**
+     * Both relations expect a module with a parameter in each slot, and both devices have them. Relation r is with
+     * device r, or, when crossed, with the other one.
+     */
+    static FieldRelay alike(boolean crossed) {
+        FieldRelay x = new FieldRelay();
+        x.kind(0, 2, 2, true);
+        for (int n = 0; n < 2; n++) {
+            x.name(n, 3 + n);
+            x.target(n, crossed ? 4 - n : 3 + n);
+            for (int slot = 0; slot < 3; slot++) {
+                x.plug(n, slot, 0);
+                x.expect(n, slot, 0, 70 + slot);
+            }
+        }
+        return x;
+    }
+
     /** Relation r opened and brought to this state by frames alone; the wire then holds the request or what came. */
     static FieldRelay brought(int r, int state) {
         FieldRelay x = prepared();
@@ -76,6 +94,14 @@ final class Rig {
     static void loseAll(FieldRelay x) {
         for (int i = 0; i < 16 && x.count(3) > 0; i++) {
             x.lose(0);
+        }
+    }
+
+    static void loseAllBut(FieldRelay x, int kept) {
+        for (int k = x.count(3) - 1; k >= 0; k--) {
+            if (k != kept) {
+                x.lose(k);
+            }
         }
     }
 
