@@ -155,24 +155,7 @@ public final class DeviceTest {
 
     /** The device loses the session by its watch and is led through it once more by late frames. */
     private static void aSessionOnceMore(Bench b) {
-        FieldRelay x = new FieldRelay();
-        x.name(0, 1);
-        x.target(0, 1);
-        x.plug(0, 0, 0);
-        x.expect(0, 0, 0, 0);
-        x.give(0, 0, 0, 9);
-        x.open(0);
-        x.deliver(0);
-        x.deliver(0);
-        x.repeat(0);
-        x.deliver(1);
-        x.deliver(1);
-        x.repeat(1);
-        x.deliver(2);
-        x.deliver(2);
-        x.deliver(2);
-        x.repeat(2);
-        x.deliver(3);
+        FieldRelay x = Rig.inDataWithItsWayHeld();
         b.wire("kept", x, Rig.CONNECT, Rig.END, Rig.GO);
         b.is("in DATA", x.device(0, 0), Rig.D_DATA);
         x.plug(0, 0, 1);

@@ -8,6 +8,7 @@ public final class GoRoundTest {
         countersGoUpTo255(b);
         newerIs1To127(b);
         anyIsNewerAsTheFirst(b);
+        anyIsNewerInASecondData(b);
         firstInEachData(b);
         alarmNumbers(b);
         b.finish();
@@ -126,6 +127,37 @@ public final class GoRoundTest {
                 b.is("the device's watch", x.device(0, 8), newer ? 0 : 1);
                 b.is("the relation's watch", x.relation(0, 5), newer ? 0 : 1);
             }
+        }
+    }
+
+    /**
+     * The device's watch ends, and late frames of the same SESSION bring it to DATA once more, while its relation
+     * goes on to large counters: none was taken in this DATA, so the first that comes is taken.
+     */
+    private static void anyIsNewerInASecondData(Bench b) {
+        for (int first : new int[] {126, 127, 128, 129, 200, 255}) {
+            FieldRelay x = Rig.inDataWithItsWayHeld();
+            x.tick(1);
+            Rig.fill(x, 14);
+            takeUpTo(x, first - 5);
+            x.tick(3);
+            x.deliver(15);
+            x.tick(1);
+            b.is("ended by its watch", x.device(0, 0), Rig.IDLE);
+            b.is("not ended by its watch", x.relation(0, 0), Rig.R_DATA);
+            x.lose(15);
+            x.lose(14);
+            for (int type : new int[] {Rig.CONNECT, Rig.END, Rig.GO}) {
+                Rig.deliverType(x, type);
+            }
+            b.is("DATA once more", x.device(0, 0), Rig.D_DATA);
+            x.give(0, 0, 0, 77);
+            x.tick(1);
+            b.frame("OUTPUT", x, 14, Rig.OUTPUT, 1, first, 0, 77);
+            b.is("INPUT's counter begins anew", x.frame(15, 2), 0);
+            x.deliver(14);
+            b.is("the first is taken, " + first, x.data(0, 0, 0, 0), 77);
+            b.is("the first is taken, " + first, x.device(0, 8), 0);
         }
     }
 

@@ -10,6 +10,8 @@ public final class NothingThereTest {
         parametersNeededInNoneSomeAndAll(b);
         parametersNotNeededWhereItDiffers(b);
         endWithAParameterLacking(b);
+        endInDataAsksForNone(b);
+        theExpectedKindNeedsIt(b);
         b.finish();
     }
 
@@ -157,6 +159,52 @@ public final class NothingThereTest {
             b.is("forgotten: " + forgotten, x.device(0, 0), forgotten == 0 ? Rig.READYING : Rig.IDLE);
             b.is("answer", x.frame(x.count(3) - 1, 0), forgotten == 0 ? Rig.READY : Rig.ABORT);
         }
+    }
+
+    /** In DATA a slot may become good without a parameter; END once more does not ask for it. */
+    private static void endInDataAsksForNone(Bench b) {
+        FieldRelay x = Rig.alike(false);
+        x.plug(0, 2, 7);
+        Rig.bring(x, 0, Rig.ENDING);
+        x.repeat(0);
+        x.deliver(0);
+        while (x.count(3) > 1) {
+            x.deliver(1);
+        }
+        x.plug(0, 2, 0);
+        b.device("none written in slot 2", x, 0, Rig.D_DATA, 1, 0, 1, 0, 70, 71, -1, 0);
+        b.wire("END once more", x, Rig.END);
+        b.is("is not answered", x.deliver(0), 0);
+        b.device("and changes nothing", x, 0, Rig.D_DATA, 1, 0, 1, 0, 70, 71, -1, 0);
+    }
+
+    /** With an EXPECTED KIND that needs one: what was plugged behind CONNECT does not matter. */
+    private static void theExpectedKindNeedsIt(Bench b) {
+        FieldRelay x = Rig.alike(false);
+        Rig.bring(x, 0, Rig.CONNECTING);
+        x.repeat(0);
+        x.deliver(0);
+        for (int i = 0; i < 7; i++) {
+            x.deliver(1);
+        }
+        deliverLateConnect(x);
+        for (int slot = 0; slot < 3; slot++) {
+            x.plug(0, slot, 5);
+        }
+        b.device("nothing is written", x, 0, Rig.CONNECTED, 1, 0, 0, 0, -1, -1, -1);
+        x.deliver(0);
+        b.wire("END lacks them", x, Rig.ABORT);
+        FieldRelay y = Rig.alike(false);
+        for (int slot = 0; slot < 3; slot++) {
+            y.plug(0, slot, 5);
+            y.expect(0, slot, 5, 0);
+        }
+        Rig.bring(y, 0, Rig.ENDING);
+        for (int slot = 0; slot < 3; slot++) {
+            y.plug(0, slot, 0);
+        }
+        y.deliver(0);
+        b.wire("END lacks none", y, Rig.ENDED, Rig.READY);
     }
 
     /** Its ACCEPT, which would come late as well, is lost. */

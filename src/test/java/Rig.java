@@ -79,6 +79,26 @@ final class Rig {
         return x;
     }
 
+    /** Relation 0 and device 0 in DATA; CONNECT, END and GO of their session are on the wire, to come once more. */
+    static FieldRelay inDataWithItsWayHeld() {
+        FieldRelay x = new FieldRelay();
+        x.name(0, 1);
+        x.target(0, 1);
+        x.plug(0, 0, 0);
+        x.expect(0, 0, 0, 0);
+        bring(x, 0, CONNECTING);
+        x.repeat(0);
+        x.deliver(1);
+        x.deliver(1);
+        x.repeat(1);
+        x.deliver(2);
+        x.deliver(2);
+        x.deliver(2);
+        x.repeat(2);
+        x.deliver(3);
+        return x;
+    }
+
     static void connect(FieldRelay x, int r) {
         x.open(r);
         drain(x);

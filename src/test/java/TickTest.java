@@ -11,9 +11,6 @@ public final class TickTest {
         watchEnds(b);
         watchIsKeptByNewer(b);
         orderWithinATick(b);
-        countersGoRound(b);
-        newerIsHalfWayRound(b);
-        aFullWireLoses(b);
         b.finish();
     }
 
@@ -202,70 +199,5 @@ public final class TickTest {
         b.frame("device 0", x, 3, Rig.INPUT, 1, 0, Rig.CONTROLLER, 0, 0, 23, 24, 0, 0, 2);
         b.frame("device 1", x, 4, Rig.ALARM, 2, 1, Rig.CONTROLLER, 0, 7);
         b.frame("device 1", x, 5, Rig.INPUT, 2, 0, Rig.CONTROLLER);
-    }
-
-    /** On a wire with room for two frames a tick(3) leaves those of its first tick: three counts with few calls. */
-    private static void countersGoRound(Bench b) {
-        FieldRelay x = Rig.inData();
-        x.tick(1);
-        Rig.fill(x, 16);
-        x.deliver(0);
-        x.deliver(0);
-        for (int i = 0; i < 90; i++) {
-            x.tick(3);
-            if (i >= 83) {
-                b.frame("output's counter", x, 14, Rig.OUTPUT, 1, 3 * i + 1 & 255, 0, 11, 12, 13);
-                b.is("input's counter", x.frame(15, 2), 3 * i + 1 & 255);
-            }
-            x.deliver(14);
-            x.deliver(14);
-        }
-        b.is("taken all the way round", x.relation(0, 5), 0);
-        b.is("taken all the way round", x.device(0, 8), 0);
-        b.is("in DATA", x.relation(0, 0), Rig.R_DATA);
-        b.is("in DATA", x.device(0, 0), Rig.D_DATA);
-    }
-
-    /** An old frame kept for 128 counts is not newer; one more, and it is taken as newer. */
-    private static void newerIsHalfWayRound(Bench b) {
-        for (int behind = 128; behind <= 129; behind++) {
-            FieldRelay x = Rig.inData();
-            x.tick(1);
-            x.lose(1);
-            x.sense(0, 0, 0, 200);
-            x.give(0, 0, 0, 201);
-            for (int c = 0; c < behind; c++) {
-                x.tick(1);
-                x.deliver(1);
-                if (c % 2 == 1 || c == behind - 1) {
-                    x.deliver(1);
-                } else {
-                    x.lose(1);
-                }
-            }
-            b.is("the device took the latest", x.data(0, 0, 0, 0), 201);
-            x.deliver(0);
-            b.is("the old output, " + behind + " behind", x.data(0, 0, 0, 0), behind == 128 ? 201 : 11);
-        }
-    }
-
-    private static void aFullWireLoses(Bench b) {
-        FieldRelay x = Rig.inData();
-        x.tick(1);
-        Rig.fill(x, 15);
-        int sent = x.count(1);
-        b.is("one more has room", x.tick(1), 16);
-        b.is("sent", x.count(1), sent + 2);
-        b.is("lost for want of room", x.count(2), 1);
-        b.is("the OUTPUT had room", x.frame(15, 0), Rig.OUTPUT);
-        x.tick(2);
-        b.is("all lost", x.count(2), 5);
-        b.is("sixteen", x.count(3), 16);
-        FieldRelay y = Rig.prepared();
-        y.open(0);
-        Rig.fill(y, 16);
-        y.tick(4);
-        b.is("a request without room is sent", y.relation(0, 6), 1);
-        b.is("and lost", y.count(2), 1);
     }
 }
